@@ -151,7 +151,7 @@ public final class VectorWays {
         if (!isPoint(x, y, POINT_REACH)) {
             return NO;
         }
-        waysTable.reach(Math.max(x, y) + 1, parts);
+        waysTable.reach(x, y, parts);
         return waysTable.at(0, x, y);
     }
 
@@ -159,7 +159,7 @@ public final class VectorWays {
         if (!isPoint(x, y, POINT_REACH)) {
             return NO;
         }
-        freeTable.reach(Math.max(x, y) + 1, parts);
+        freeTable.reach(x, y, parts);
         return freeTable.at(x, y);
     }
 
@@ -167,7 +167,7 @@ public final class VectorWays {
         if (!isPoint(x, y, POINT_REACH)) {
             return NO;
         }
-        freeTable.reach(Math.max(x, y) + 1, parts);
+        freeTable.reach(x, y, parts);
         // One of each part is taken beforehand; the rest is as one likes.
         return freeTable.at(x - parts.acrossTogether(), y - parts.upTogether());
     }
@@ -176,7 +176,7 @@ public final class VectorWays {
         if (!isPoint(x, y, POINT_REACH) || i < 0 || !parts.has(part)) {
             return BAD;
         }
-        waysTable.reach(Math.max(x, y) + 1, parts);
+        waysTable.reach(x, y, parts);
         if (i >= waysTable.at(0, x, y)) {
             return NONE;
         }
@@ -248,17 +248,16 @@ public final class VectorWays {
         if (g < 0 || h < 0 || h > most || g > most - h) {
             return NO;
         }
-        freeTable.reach(formulaSide(), parts);
-        formulas.locate(fan, chamber, x, y);
-        return formulas.step(g, h, freeTable);
+        readyFormula(chamber, x, y);
+        formulas.readDifferences(most, freeTable);
+        return formulas.differenceAt(g, h);
     }
 
     public long formula(int chamber, int x, int y) {
         if (!hasFormula(chamber) || !isSpot(x, y)) {
             return NO;
         }
-        freeTable.reach(formulaSide(), parts);
-        formulas.locate(fan, chamber, x, y);
+        readyFormula(chamber, x, y);
         return formulas.told(parts.count - 2, freeTable);
     }
 
@@ -266,7 +265,8 @@ public final class VectorWays {
         if (!hasFormula(chamber) || n < 0 || n > FOLD_REACH) {
             return BAD;
         }
-        freeTable.reach(Math.max(formulaSide(), n + 1), parts);
+        readyFormula(chamber, n, n);
+        freeTable.reach(n, n, parts);
         int same = 0;
         for (int x = 0; x <= n; x++) {
             for (int y = 0; y <= n; y++) {
@@ -338,7 +338,7 @@ public final class VectorWays {
         if (row == null || refusal != 0) {
             return refusal;
         }
-        waysTable.reach(row.tableSide(w), parts);
+        waysTable.reach(w - 1, row.lastUp(w), parts);
         // A refused call changes nothing, so all are looked at before the first is laid.
         for (int k = 0; k < row.size; k++) {
             if (waysAtPlace(k, w) > row.greatest()) {
@@ -357,7 +357,7 @@ public final class VectorWays {
         if (row == null || refusal != 0) {
             return refusal;
         }
-        waysTable.reach(row.tableSide(w), parts);
+        waysTable.reach(w - 1, row.lastUp(w), parts);
         for (int k = 0; k < row.size && k < MOST_PLACES; k++) {
             if (row.values[k] != waysAtPlace(k, w)) {
                 return k;
@@ -375,7 +375,7 @@ public final class VectorWays {
         if (row == null || refusal != 0) {
             return refusal;
         }
-        freeTable.reach(row.tableSide(w), parts);
+        freeTable.reach(w - 1, row.lastUp(w), parts);
         int fitting = 0;
         int first = NONE;
         for (int a = 0; a <= MOST_STEP; a++) {
@@ -478,12 +478,11 @@ public final class VectorWays {
         return fan.hasFormulas() && chamber >= 0 && chamber < fan.chambers();
     }
 
-    /**
-     * A home lies below 2 * 4 * period, and m - 2 steps of 4 * period at most go on from it:
-     * together they stay below 4 * period * m.
-     */
-    private int formulaSide() {
-        return MOST_STEP * fan.period * parts.count;
+    /** Finds a point's home, and has the table reach all that differences of this chamber need. */
+    private void readyFormula(int chamber, int x, int y) {
+        formulas.locate(fan, chamber, x, y);
+        int most = parts.count - 2;
+        freeTable.reach(formulas.farX(most), formulas.farY(most), parts);
     }
 
     private Sheet sheetAt(int sheet) {
@@ -990,50 +989,67 @@ public final class VectorWays {
         }
     }
 
-    /** How many free ways there are, for all points below a side that grows as it is needed. */
+    /** How many free ways there are, for all points as far as they were needed. */
     private static final class FreeTable {
-        /** The farthest point of a difference: 4 * period * m, at most 4 * 6 * 6. */
+        /**
+         * Homes lie below 2 * 4 * period, and m - 2 steps of 4 * period at most go on from them:
+         * what differences need stays below 4 * period * m.
+         */
         private static final int FAR = MOST_STEP * MOST_PERIOD * MOST_PARTS;
 
         private final long[] cells = new long[FAR * FAR];
-        private int side = 0;
+        private int knownX = -1;
+        private int knownY = -1;
 
         private void forget() {
-            side = 0;
+            knownX = -1;
+            knownY = -1;
         }
 
-        private void reach(int wanted, Parts parts) {
-            int most = Math.min(wanted, FAR);
-            if (most <= side) {
+        private void reach(int x, int y, Parts parts) {
+            if (x <= knownX && y <= knownY) {
                 return;
             }
-            side = most;
-            Arrays.fill(cells, 0L);
-            cells[0] = 1;
+            knownX = Math.min(Math.max(x, knownX), FAR - 1);
+            knownY = Math.min(Math.max(y, knownY), FAR - 1);
+            begin();
             for (int p = 0; p < parts.count && p < MOST_PARTS; p++) {
                 add(parts.across[p], parts.up[p]);
             }
         }
 
+        private void begin() {
+            for (int x = 0; x <= knownX && x < FAR; x++) {
+                for (int y = 0; y <= knownY && y < FAR; y++) {
+                    cells[x * FAR + y] = 0;
+                }
+            }
+            cells[0] = 1;
+        }
+
         /** The lesser points come first: a part may so be taken again and again. */
         private void add(int a, int b) {
-            for (int x = Math.max(a, 0); x < side && x < FAR; x++) {
-                for (int y = Math.max(b, 0); y < side && y < FAR; y++) {
+            for (int x = Math.max(a, 0); x <= knownX && x < FAR; x++) {
+                for (int y = Math.max(b, 0); y <= knownY && y < FAR; y++) {
                     cells[x * FAR + y] += at(x - a, y - b);
                 }
             }
         }
 
         private long at(int x, int y) {
-            boolean isKnown = x >= 0 && x < side && x < FAR && y >= 0 && y < side && y < FAR;
+            boolean isKnown = x >= 0 && x <= knownX && x < FAR && y >= 0 && y <= knownY && y < FAR;
             return isKnown ? cells[x * FAR + y] : 0;
         }
 
         /** How many there are if a part (a, b) comes. */
         private long atWith(int x, int y, int a, int b) {
             long all = 0;
-            for (int k = 0; k <= MOST_TAKEN; k++) {
-                all += at(x - k * a, y - k * b);
+            int restX = x;
+            int restY = y;
+            for (int k = 0; k <= MOST_TAKEN && restX >= 0 && restY >= 0; k++) {
+                all += at(restX, restY);
+                restX -= a;
+                restY -= b;
             }
             return all;
         }
@@ -1048,22 +1064,24 @@ public final class VectorWays {
         private static final int LAYERS = MOST_PARTS + 1;
 
         private final long[] cells = new long[LAYERS * FAR * FAR];
-        private int side = 0;
+        private int knownX = -1;
+        private int knownY = -1;
 
         private void forget() {
-            side = 0;
+            knownX = -1;
+            knownY = -1;
         }
 
-        private void reach(int wanted, Parts parts) {
-            int most = Math.min(wanted, FAR);
-            if (most <= side) {
+        private void reach(int x, int y, Parts parts) {
+            if (x <= knownX && y <= knownY) {
                 return;
             }
-            side = most;
+            knownX = Math.min(Math.max(x, knownX), FAR - 1);
+            knownY = Math.min(Math.max(y, knownY), FAR - 1);
             for (int layer = parts.count; layer >= 0; layer--) {
-                for (int x = 0; x < side && x < FAR; x++) {
-                    for (int y = 0; y < side && y < FAR; y++) {
-                        set(layer, x, y, counted(layer, x, y, parts));
+                for (int atX = 0; atX <= knownX; atX++) {
+                    for (int atY = 0; atY <= knownY; atY++) {
+                        set(layer, atX, atY, counted(layer, atX, atY, parts));
                     }
                 }
             }
@@ -1073,14 +1091,19 @@ public final class VectorWays {
             if (!parts.has(layer)) {
                 return x == 0 && y == 0 ? 1 : 0;
             }
+            int a = parts.across[layer];
+            int b = parts.up[layer];
+            if (parts.letting[layer] == ANY) {
+                // None is taken, or one and then any number again: that spares the sum.
+                return at(layer + 1, x, y) + at(layer, x - a, y - b);
+            }
             long all = 0;
-            for (int k = 0; k <= MOST_TAKEN; k++) {
-                int restX = x - k * parts.across[layer];
-                int restY = y - k * parts.up[layer];
-                if (restX < 0 || restY < 0) {
-                    break;
-                }
+            int restX = x;
+            int restY = y;
+            for (int k = 0; k <= MOST_TAKEN && restX >= 0 && restY >= 0; k++) {
                 all += parts.allows(layer, k) ? at(layer + 1, restX, restY) : 0;
+                restX -= a;
+                restY -= b;
             }
             return all;
         }
@@ -1093,7 +1116,7 @@ public final class VectorWays {
 
         private long at(int layer, int x, int y) {
             boolean isKnown = layer >= 0 && layer < LAYERS
-                    && x >= 0 && x < side && x < FAR && y >= 0 && y < side && y < FAR;
+                    && x >= 0 && x <= knownX && x < FAR && y >= 0 && y <= knownY && y < FAR;
             return isKnown ? cells[(layer * FAR + x) * FAR + y] : 0;
         }
 
@@ -1203,6 +1226,10 @@ public final class VectorWays {
 
     /** The home of a point for a chamber, the differences there, and the formula at the point. */
     private static final class Formulas {
+        /** No more than the parts less 2 are added up in a difference. */
+        private static final int SIDE = MOST_PARTS - 1;
+
+        private final long[] differences = new long[SIDE * SIDE];
         private int homeX = 0;
         private int homeY = 0;
         private int i = 0;
@@ -1227,35 +1254,66 @@ public final class VectorWays {
             homeY = y - i * firstY - j * secondY;
         }
 
-        private long step(int g, int h, FreeTable table) {
-            long all = 0;
-            for (int u = 0; u <= g; u++) {
-                for (int v = 0; v <= h; v++) {
-                    long there = table.at(homeX + u * firstX + v * secondX, homeY + u * firstY + v * secondY)
-                            * choose(g, u) * choose(h, v);
-                    all += (g - u + h - v) % 2 == 0 ? there : -there;
+        /** How far across differences of this chamber go at most, whatever the home; steps are m - 2 at most. */
+        private int farX(int most) {
+            return firstX + secondX + most * Math.max(firstX, secondX);
+        }
+
+        private int farY(int most) {
+            return firstY + secondY + most * Math.max(firstY, secondY);
+        }
+
+        /** Taking each count from the next one, again and again, makes the differences that the document tells. */
+        private void readDifferences(int most, FreeTable table) {
+            for (int g = 0; g <= most; g++) {
+                for (int h = 0; g + h <= most; h++) {
+                    set(g, h, table.at(homeX + g * firstX + h * secondX, homeY + g * firstY + h * secondY));
                 }
             }
-            return all;
+            for (int times = 1; times <= most; times++) {
+                for (int g = most; g >= times; g--) {
+                    for (int h = 0; g + h <= most; h++) {
+                        set(g, h, differenceAt(g, h) - differenceAt(g - 1, h));
+                    }
+                }
+            }
+            for (int times = 1; times <= most; times++) {
+                for (int h = most; h >= times; h--) {
+                    for (int g = 0; g + h <= most; g++) {
+                        set(g, h, differenceAt(g, h) - differenceAt(g, h - 1));
+                    }
+                }
+            }
         }
 
         private long told(int most, FreeTable table) {
+            readDifferences(most, table);
             long all = 0;
+            long ofI = 1;
             for (int g = 0; g <= most; g++) {
+                long ofJ = 1;
                 for (int h = 0; g + h <= most; h++) {
-                    all += step(g, h, table) * choose(i, g) * choose(j, h);
+                    all += differenceAt(g, h) * ofI * ofJ;
+                    ofJ = chooseNext(ofJ, j, h);
                 }
+                ofI = chooseNext(ofI, i, g);
             }
             return all;
         }
 
-        /** Every product on the way is a number of choices times a factor, so each division leaves nothing. */
-        private static long choose(int n, int k) {
-            long all = 1;
-            for (int f = 1; f <= k; f++) {
-                all = all * (n - f + 1) / f;
+        /** Choose k and 1 of n, from choose k of n: the division leaves nothing. */
+        private static long chooseNext(long ofK, int n, int k) {
+            return k < 0 ? 0 : ofK * (n - k) / (k + 1);
+        }
+
+        private void set(int g, int h, long value) {
+            if (g >= 0 && g < SIDE && h >= 0 && h < SIDE) {
+                differences[g * SIDE + h] = value;
             }
-            return all;
+        }
+
+        private long differenceAt(int g, int h) {
+            return g >= 0 && g < SIDE && h >= 0 && h < SIDE ? differences[g * SIDE + h] : 0;
         }
     }
 
@@ -1287,9 +1345,9 @@ public final class VectorWays {
             return sort == BYTES ? 127 : 32767;
         }
 
-        /** The side of a square that all places of a table of this width lie in. */
-        private int tableSide(int w) {
-            return w < 1 ? 0 : Math.max(w, (size + w - 1) / w);
+        /** How far up the last place of a table of this width lies. */
+        private int lastUp(int w) {
+            return w < 1 || size < 1 ? 0 : (size - 1) / w;
         }
     }
 }

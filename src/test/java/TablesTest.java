@@ -156,7 +156,16 @@ public final class TablesTest {
         DUE.due("not above 32767", x.lay(0, 1), 16);
         DUE.due("136", x.item(0, 1, 15), 136);
 
-        // One more than the places: 127 is brought about by 126 and 1, 128 by 127 and 1.
+        // A number that the first part may not take leaves out 8 (or 9) of the 136 ways of 15.
+        VectorWays byte8 = ruled("not is 8", 3);
+        byte8.sheet(0, 0, 16);
+        DUE.due("128 ways", byte8.ways(0, 15), 128);
+        DUE.due("128 is above 127", byte8.lay(0, 1), VectorWays.OVER);
+        VectorWays byte7 = ruled("not is 7", 3);
+        byte7.sheet(0, 0, 16);
+        DUE.due("127 isn't", byte7.lay(0, 1), 16);
+        DUE.due("127", byte7.item(0, 0, 15), 127);
+
         VectorWays y = Due.with(0, 1, 0, 2, 0, 3);
         y.sheet(0, 0, 60);
         DUE.due("61 at (0, 36) is far off the bound", y.lay(0, 1), VectorWays.OVER);
@@ -168,6 +177,16 @@ public final class TablesTest {
         y.sheet(0, 0, 38);
         DUE.due("133 doesn't", y.lay(0, 1), VectorWays.OVER);
 
+        // Numbers that the first part may not take leave out 1431, 21 and 1 of the 34220 ways of 57.
+        VectorWays shorts = ruled("not (is 5 or is 52)", 4);
+        shorts.sheet(0, 1, 58);
+        DUE.due("32768 ways", shorts.ways(0, 57), 32768);
+        DUE.due("32768 is above 32767", shorts.lay(0, 1), VectorWays.OVER);
+        shorts = ruled("not (is 5 or is 52 or is 57)", 4);
+        shorts.sheet(0, 1, 58);
+        DUE.due("32767 isn't", shorts.lay(0, 1), 58);
+        DUE.due("32767", shorts.item(0, 1, 57), 32767);
+
         // At (0, 56) 32509, at (0, 57) 34220.
         VectorWays z = Due.with(0, 1, 0, 1, 0, 1, 0, 1);
         z.sheet(0, 1, 57);
@@ -175,6 +194,17 @@ public final class TablesTest {
         DUE.due("32509 stands in shorts", z.lay(0, 1), 57);
         z.sheet(0, 1, 58);
         DUE.due("34220 doesn't", z.lay(0, 1), VectorWays.OVER);
+    }
+
+    /** Parts that go 1 up, the first of which has a rule. */
+    private static VectorWays ruled(String text, int parts) {
+        VectorWays x = new VectorWays();
+        for (int i = 0; i < parts; i++) {
+            x.part(0, 1);
+        }
+        Due.feed(x, text);
+        x.rule(0);
+        return x;
     }
 
     // Promise 28

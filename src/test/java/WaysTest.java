@@ -189,8 +189,18 @@ public final class WaysTest {
         brim.weigh(1, 3);
         DUE.due("1 and others more together", brim.fold(0, 2, 20), VectorWays.OVER);
         brim.weigh(1, 1);
-        DUE.due("21 and 2: 15 times as much", brim.fold(0, 3, 20), VectorWays.OVER);
-        DUE.due("19: 15 by 8 times as much", brim.fold(0, 3, 19), 15 * (((1L << 60) - 1) / 7));
+        DUE.due("15 by 7 times as much together", brim.fold(0, 3, 20), VectorWays.OVER);
+        DUE.due("15 by some 8 times as much together", brim.fold(0, 3, 19), 15 * (((1L << 60) - 1) / 7));
+
+        VectorWays once = Due.with(1, 0, 0, 1);
+        once.weigh(0, 16);
+        once.weigh(1, 3);
+        for (int k = 0; k <= 30; k++) {
+            DUE.due("16^" + k, once.fold(k % 2 * 3, k, 0), k > 15 ? VectorWays.OVER : 1L << (4 * k));
+            DUE.due("16^16 by 3^" + k, once.fold(k % 2 * 3, 16, k), VectorWays.OVER);
+            DUE.due("3^" + k + " by 16^16", once.fold(3 - k % 2 * 3, 16, k), VectorWays.OVER);
+            DUE.due("copies of 16^" + k, once.fold(1 + k % 2, k, k), 2 * k);
+        }
 
         VectorWays shut = Due.with(1, 0, 1, 0, 0, 1);
         shut.weigh(0, 99);
