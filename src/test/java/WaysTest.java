@@ -65,6 +65,12 @@ public final class WaysTest {
         DUE.due("the last way", y.way(60, 0, 8259887, 0), 60);
         DUE.due("the first way", y.way(60, 0, 0, 5), 60);
         DUE.due("one more", y.way(60, 0, 8259888, 0), VectorWays.NONE);
+        VectorWays sixty = Due.with(1, 0, 0, 1);
+        Due.feed(sixty, "is 60 or is 0");
+        sixty.rule(0);
+        DUE.due("sixty of a part by a rule", sixty.ways(60, 60), 1);
+        DUE.due("sixty of a part by a rule", sixty.way(60, 60, 0, 0), 60);
+        DUE.due("not so of 59", sixty.ways(59, 60), 0);
     }
 
     private static void countsFollowChanges() {
