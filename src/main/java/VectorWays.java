@@ -23,7 +23,7 @@ public final class VectorWays {
     private static final int BYTES = 0, SHORTS = 1, LONGS = 2, NO_SORT = -1;
 
     private static final int POINT_REACH = 60;
-    private static final int FOLD_REACH = 30;
+    private static final int NEAR_REACH = 30;
     private static final int HOME_OFFSET = 1000;
 
     private static final long GREATEST = 9223372036854775807L;
@@ -184,7 +184,7 @@ public final class VectorWays {
     }
 
     public long fold(int what, int x, int y) {
-        if (what < 0 || what > 3 || !isPoint(x, y, FOLD_REACH)) {
+        if (what < 0 || what > 3 || !isPoint(x, y, NEAR_REACH)) {
             return NO;
         }
         long all = folder.folded(what, x, y, parts);
@@ -262,7 +262,7 @@ public final class VectorWays {
     }
 
     public int agrees(int chamber, int n) {
-        if (!hasFormula(chamber) || n < 0 || n > FOLD_REACH) {
+        if (!hasFormula(chamber) || n < 0 || n > NEAR_REACH) {
             return BAD;
         }
         readyFormula(chamber, n, n);
@@ -1151,7 +1151,7 @@ public final class VectorWays {
 
     /** Folds all ways to make a point into one number; NONE stands for no way, OVER for too great a number. */
     private static final class Folder {
-        private static final int FAR = FOLD_REACH + 1;
+        private static final int FAR = NEAR_REACH + 1;
         private static final int WORTH_SUM = 0, MOST_COPIES = 1, FEWEST_COPIES = 2;
 
         private final long[] cells = new long[FAR * FAR];
