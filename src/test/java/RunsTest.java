@@ -3,6 +3,8 @@ import java.util.Random;
 /** Long runs of calls, each answer compared with what PlainWays answers. */
 public final class RunsTest {
     private static final int CALLS = 512;
+    /** The longest rule that is told takes so many calls, for its bytes and for itself. */
+    private static final int CALLS_OF_A_RULE = 30;
     private static final int[] EDGES = {-1, 0, 1, 4, 5, 6, 30, 31, 60, 61, -60, -61, Integer.MAX_VALUE, Integer.MIN_VALUE};
     private static final String[] WORDS = {"any", "most ", "least ", "by ", "is ", "not ", "and ", "or ", "(", ")", " ",
         "5", "12", "0", "100", "x", "z", "any and ", "is 2 or ", "not is 1", "by 2", "least 1", "\t", "\u00e9"};
@@ -13,6 +15,7 @@ public final class RunsTest {
     private final VectorWays x = new VectorWays();
     private final PlainWays plain = new PlainWays();
     private final int wildness;
+    private int calls = 0;
 
     private RunsTest(long seed, int wildness) {
         random = new Random(seed);
@@ -23,8 +26,8 @@ public final class RunsTest {
         int runs = args.length > 0 ? Integer.parseInt(args[0]) : 60;
         for (int run = 0; run < runs && DUE.wrong() < 10; run++) {
             RunsTest test = new RunsTest(run, run % 3 == 0 ? 15 : 60);
-            for (int call = 0; call < CALLS && DUE.wrong() < 10; call++) {
-                test.call("run " + run + " call " + call + ": ");
+            while (test.calls <= CALLS - CALLS_OF_A_RULE && DUE.wrong() < 10) {
+                test.call("run " + run + " call " + test.calls + ": ");
             }
         }
         DUE.end();
@@ -43,6 +46,7 @@ public final class RunsTest {
     }
 
     private void due(String call, long got, long want) {
+        calls++;
         DUE.due(call, got, want);
     }
 
@@ -79,7 +83,7 @@ public final class RunsTest {
     }
 
     private void tellRule(String where) {
-        int p = pick(0, Math.max(0, x.many(0) - 1));
+        int p = pick(0, Math.max(0, plain.many(0) - 1));
         if (random.nextInt(4) == 0) {
             int k = pick(0, 60);
             due(where + "lets(" + p + ", " + k + ")", x.lets(p, k), plain.lets(p, k));
@@ -148,7 +152,7 @@ public final class RunsTest {
     }
 
     private void askFormula(String where) {
-        int chamber = pick(0, Math.max(0, x.many(2) - 1));
+        int chamber = pick(0, Math.max(0, plain.many(2) - 1));
         int toX = random.nextInt(4) == 0 ? pick(-60, 60) : pick(-9, 15);
         int toY = random.nextInt(4) == 0 ? pick(-60, 60) : pick(-9, 15);
         String point = "(" + chamber + ", " + toX + ", " + toY;
