@@ -1,10 +1,35 @@
 /** What a test asks for: answers that are not as due are printed and counted. */
 final class Due {
-    private int asked = 0;
+    private static final int PATIENCE = 60_000;
+
+    private volatile int asked = 0;
+    private volatile String latest = "the start";
     private int wrong = 0;
+
+    Due() {
+        Thread watcher = new Thread(this::watch);
+        watcher.setDaemon(true);
+        watcher.start();
+    }
+
+    /** A call that doesn't end isn't as due, either. */
+    private void watch() {
+        int before = -1;
+        try {
+            while (asked != before) {
+                before = asked;
+                Thread.sleep(PATIENCE);
+            }
+        } catch (InterruptedException interrupted) {
+            return;
+        }
+        System.out.println("no answer for a minute, since " + latest);
+        Runtime.getRuntime().halt(1);
+    }
 
     void due(String call, long got, long want) {
         asked++;
+        latest = call;
         if (got != want) {
             wrong++;
             System.out.println(call + " answered " + got + ", due is " + want);
