@@ -10,6 +10,7 @@ public final class WaysEdgesTest {
         free();
         freeAfterChanges();
         strict();
+        strictAfterChanges();
         way();
         wayRefused();
         foldOfNone();
@@ -94,6 +95,26 @@ public final class WaysEdgesTest {
         x.again();
         EDGES.due("three parts again: free(9, 4)", x.free(9, 4), 5);
         EDGES.due("three parts again: free(4, 9)", x.free(4, 9), 5);
+    }
+
+    private static void strictAfterChanges() {
+        EDGES.promise(13, "How many FREE WAYS that take some of each PART");
+        VectorWays x = Due.with(1, 0, 0, 1, 2, 3, 4, 4);
+        EDGES.due("four parts: strict(7, 8)", x.strict(7, 8), 1);
+        EDGES.due("four parts: strict(6, 8)", x.strict(6, 8), 0);
+        x.drop();
+        EDGES.due("(4, 4) goes: strict(3, 4)", x.strict(3, 4), 1);
+        EDGES.due("(4, 4) goes: strict(7, 8)", x.strict(7, 8), 2);
+        x.drop();
+        EDGES.due("(2, 3) goes: strict(1, 1)", x.strict(1, 1), 1);
+        x.drop();
+        EDGES.due("(0, 1) goes: strict(1, 0)", x.strict(1, 0), 1);
+        EDGES.due("(0, 1) goes: strict(1, 1)", x.strict(1, 1), 0);
+        x.drop();
+        EDGES.due("no parts any more: strict(0, 0)", x.strict(0, 0), 1);
+        x.undo();
+        EDGES.due("(1, 0) comes again: strict(0, 0)", x.strict(0, 0), 0);
+        EDGES.due("(1, 0) comes again: strict(60, 0)", x.strict(60, 0), 1);
     }
 
     private static void strict() {
