@@ -115,6 +115,7 @@ public final class LanguageTest {
         }
         holds("rule 2: no lambda", !code.contains("->"));
         holds("rule 2: no method reference", !code.contains("::"));
+        holds("rule 5: no static block", !Pattern.compile("\\bstatic\\s*\\{").matcher(code).find());
         holds("rule 4: none of Exact", !code.contains("Exact("));
         holds("rule 10: no texts joined by +", !Pattern.compile("\"\\s*\\+|\\+\\s*\"").matcher(code).find());
         holds("rule 9: no loop without a bound",
@@ -137,7 +138,7 @@ public final class LanguageTest {
         }
     }
 
-    /** Rule 11: short methods; rule 8 isn't needed, as none calls itself. */
+    /** Rule 11: short methods; rule 8: none calls itself (CompiledTest looks at longer ways around). */
     private static void sizes(String code) {
         Matcher heads = Pattern.compile("(?m)^( {4}| {8})(public|private)[^;=]*?(\\w+)\\(([^)]*)\\) \\{$").matcher(code);
         int methods = 0;
